@@ -909,43 +909,32 @@ public final class TicketHall {
             }
             text.open(verb);
             advance();
-            if (inOrders) {
-                orderSums(verb);
-                times();
-            } else if (verb <= COSTS) {
+            if (inOrders ? verb != PASS : verb <= COSTS) {
                 markedSum(Text.FIRST);
             }
-            if (fault == NONE && isWord("if")) {
-                advance();
+            if (inOrders && verb <= SWAP) {
+                if (goesOnWith(verb == DRAW ? "by" : "with")) {
+                    markedSum(Text.SECOND);
+                } else {
+                    wrong();
+                }
+            }
+            if (inOrders && goesOnWith("times")) {
+                times();
+            }
+            if (goesOnWith("if")) {
                 text.mark(Text.TEST, text.size);
                 anyOf(0);
                 text.emit(Machine.STOP, 0);
             }
         }
 
-        private void orderSums(int verb) {
-            if (verb != PASS) {
-                markedSum(Text.FIRST);
-            }
-            if (verb == DRAW || verb == SWAP) {
-                if (fault == NONE && isWord(verb == DRAW ? "by" : "with")) {
-                    advance();
-                    markedSum(Text.SECOND);
-                } else {
-                    wrong();
-                }
-            }
-        }
-
         private void times() {
-            if (fault == NONE && isWord("times")) {
+            if (sign == DIGITS && number >= 1 && number <= MOST_TIMES) {
+                text.mark(Text.TIMES, number);
                 advance();
-                if (sign == DIGITS && number >= 1 && number <= MOST_TIMES) {
-                    text.mark(Text.TIMES, number);
-                    advance();
-                } else {
-                    wrong();
-                }
+            } else {
+                wrong();
             }
         }
 
@@ -957,9 +946,8 @@ public final class TicketHall {
 
         private void anyOf(int depth) {
             allOf(depth);
-            for (int i = 0; i < MOST_BYTES && fault == NONE && isWord("or"); i++) {
+            for (int i = 0; i < MOST_BYTES && goesOnWith("or"); i++) {
                 int jump = text.emit(Machine.OR, 0);
-                advance();
                 allOf(depth);
                 text.aimHere(jump);
             }
@@ -967,9 +955,8 @@ public final class TicketHall {
 
         private void allOf(int depth) {
             plain(depth);
-            for (int i = 0; i < MOST_BYTES && fault == NONE && isWord("and"); i++) {
+            for (int i = 0; i < MOST_BYTES && goesOnWith("and"); i++) {
                 int jump = text.emit(Machine.AND, 0);
-                advance();
                 plain(depth);
                 text.aimHere(jump);
             }
@@ -978,9 +965,8 @@ public final class TicketHall {
         private void plain(int depth) {
             boolean not = false;
             // A row of these would go too deep as a recursion.
-            for (int i = 0; i < MOST_BYTES && isWord("not"); i++) {
+            for (int i = 0; i < MOST_BYTES && goesOnWith("not"); i++) {
                 not = !not;
-                advance();
             }
             if (sign == '(') {
                 if (opens(depth)) {
@@ -1110,34 +1096,31 @@ public final class TicketHall {
                 sign = THE_END;
                 return;
             }
-            sign = tape[at] & 255;
-            if (isLetter(sign)) {
+            int first = tape[at];
+            at++;
+            if (first >= 'a' && first <= 'z') {
                 sign = LETTERS;
-                while (at < length && isLetter(tape[at])) {
+                while (at < length && tape[at] >= 'a' && tape[at] <= 'z') {
                     at++;
                 }
-            } else if (isDigit(sign)) {
+            } else if (first >= '0' && first <= '9') {
                 sign = DIGITS;
-                number = 0;
-                while (at < length && isDigit(tape[at])) {
+                number = first - '0';
+                while (at < length && tape[at] >= '0' && tape[at] <= '9') {
                     number = Math.min(number * 10 + tape[at] - '0', MOST_NUMBER + 1);
                     at++;
                 }
             } else {
-                at++;
+                sign = first & 255;
             }
         }
 
-        private static boolean isLetter(int b) {
-            return b >= 'a' && b <= 'z';
-        }
-
-        private static boolean isDigit(int b) {
-            return b >= '0' && b <= '9';
-        }
-
-        private boolean isWord(String word) {
-            return placeIn(word) == 0;
+        private boolean goesOnWith(String word) {
+            boolean here = fault == NONE && placeIn(word) == 0;
+            if (here) {
+                advance();
+            }
+            return here;
         }
 
         /** Which of the words that blanks part the token is; NONE, if it is none of them. */
