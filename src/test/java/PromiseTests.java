@@ -206,6 +206,8 @@ public final class PromiseTests {
     due(8, "fits by kind beside the law", x.asks(0, 1, 1), 1);
     due(8, "barred from its own", x.asks(1, 1, 2), 1);
     due(8, "not barred from another", x.asks(1, 0, 2), 0);
+    force(x, "takes 9 if kind = 0 and number = 1 and ticket = 0");
+    due(8, "kind and number of ticket 0", x.asks(2, 0, 3), 9);
     force(x, "takes 0 - 5");
     due(8, "takes, the nearest above", x.asks(0, 0, 3), 1);
     force(x, "takes 5; takes 1 / 0; takes 3 if 1 / 0 = 0");
@@ -354,7 +356,8 @@ public final class PromiseTests {
     for (String t : so) due(8, "'" + t + "' is so", isSo(t), 1);
     String[] notSo = {"1 = 2", "not 1 = 1", "1 = 1 and 1 = 2", "1 / 0 = 1", "not 1 / 0 = 1", "1 % 0 = 0", "1 / 0 = 1 or 1 = 1", "1 = 1 and 1 / 0 = 1",
         "1 = 2 or 1 / 0 = 1", "not (1 = 1 and 1 / 0 = 1)", "1000 * 1000 * 1000 + 1 > 1", "0 - 1000 * 1000 * 1000 - 1 < 0",
-        "1000 * 1000 * 1000 * 2 / 2 > 1", "1000 * 1000 * 1000 + 1 - 1 > 1", "1000*1000*1000*[1000*1000*1000] > 1", "(1 = 1 or 1 = 1) and 1 = 2"};
+        "1000 * 1000 * 1000 * 2 / 2 > 1", "1000 * 1000 * 1000 + 1 - 1 > 1", "1000*1000*1000*[1000*1000*1000] > 1", "(1 = 1 or 1 = 1) and 1 = 2",
+        "not 1 = 1 and 1 = 1", "not (1 = 2) and not 1 = 1 or 1 = 2"};
     for (String t : notSo) due(8, "'" + t + "' is not so", isSo(t), 0);
   }
 
@@ -495,6 +498,19 @@ public final class PromiseTests {
     for (int i = 0; i < 16; i++) due(23, "kept", x.undo(), 3);
     due(23, "no seventeenth", x.undo(), -3);
     due(23, "minute", x.count(14), 4);
+    int[] acts = new int[20];
+    for (int i = 0; i < 20; i++) {
+      acts[i] = i % 3 == 0 ? 0 : i % 3 == 1 ? 3 : 2;
+      if (acts[i] == 0) x.draw(i % 2, 1);
+      else if (acts[i] == 3) x.pass();
+      else x.drop(1);
+    }
+    for (int i = 19; i > 3; i--) due(23, "the latest sixteen, the latest first", x.undo(), acts[i]);
+    due(23, "as ahead of them", x.of(1, 2), 1);
+    x.drop(1);
+    x.undo();
+    x.drop(1);
+    x.terms(0, 4);
     x.draw(0, 0);
     x.wish(0, 0, 1);
     x.desk(1, 1);
@@ -629,6 +645,14 @@ public final class PromiseTests {
     due(26, "no such way: ticket", x.about(2), -1);
     x.drop(0);
     due(26, "it may be again", x.about(0), 0);
+    due(26, "whoever holds none", x.about(2), -1);
+    due(26, "the others, 7 first for 1", x.about(3), 1);
+    x.force(-1);
+    x.drop(2);
+    x.person(3, 0);
+    x.draw(2, 4);
+    due(26, "behind some who hold none", x.about(6), 2);
+    due(26, "one fit", x.about(0), 1);
   }
 
   private static void trade() {
@@ -702,6 +726,22 @@ public final class PromiseTests {
     due(29, "no such person", x.take(6), -1);
     due(29, "below", x.take(-1), -1);
     due(29, "on paper", x.of(5, 2), -1);
+    TicketHall y = new TicketHall();
+    y.person(0, 0);
+    y.person(0, 0);
+    y.ticket(9, 0);
+    y.ticket(3, 1);
+    y.ticket(5, 0);
+    y.desk(1, 9);
+    y.desk(2, 3);
+    due(29, "ticket 0", y.take(0), 0);
+    y.draw(2, 1);
+    // Ticket 0 would be done behind 5, at 6; ticket 1 at the other desk at 7.
+    due(29, "behind another one's", y.take(0), 0);
+    force(y, "takes 4 if person = 1");
+    due(29, "alike: the lowest", y.take(0), 0);
+    force(y, "takes 5 if person = 1");
+    due(29, "longer", y.take(0), 1);
   }
 
   private static void desks() {
@@ -786,8 +826,9 @@ public final class PromiseTests {
     x.told(3, 6);
     due(33, "one who holds none is never done", x.had(-1, 0), 0);
     TicketHall y = new TicketHall();
-    due(33, "empty: one way", y.had(-1, 0), 1);
     due(34, "nobody holds one", y.ask(0), -1);
+    due(33, "empty: one way", y.had(-1, 0), 1);
+    due(34, "asked first", held(3).ask(1), 2);
     TicketHall z = held(6);
     due(33, "most ways", z.had(-1, 0), 720);
     due(33, "the last one", z.had(719, 0), 5);
@@ -824,6 +865,7 @@ public final class PromiseTests {
     due(37, "seed below", x.days(-1, 1), -1);
     due(37, "seed above", x.days(1000001, 1), -1);
     due(37, "n below", x.days(0, 0), -1);
+    due(37, "the highest seed and n can be", x.days(1000000, 60), -3);
     due(37, "n above", x.days(0, 61), -1);
     due(37, "nobody", x.days(0, 1), -3);
     x.person(0, 0);
@@ -941,6 +983,28 @@ public final class PromiseTests {
     x.draw(0, 0);
     x.back(1);
     due(40, "as then", x.of(0, 2), -1);
+    TicketHall y = new TicketHall();
+    y.image(0);
+    y.person(3, 44);
+    y.ticket(55, 2);
+    y.desk(4, 6);
+    y.draw(0, 0);
+    y.told(0, 4);
+    y.image(1);
+    y.back(0);
+    due(40, "empty again", y.count(0) + y.count(1) + y.count(2) + y.count(3) + y.count(4), 0);
+    y.person(1, 11);
+    y.person(1, 12);
+    y.ticket(22, 1);
+    y.desk(1, 1);
+    y.told(1, 999);
+    y.back(1);
+    due(40, "business", y.of(0, 0), 3);
+    due(40, "patience", y.of(0, 1), 44);
+    due(40, "number", y.at(0, 0), 55);
+    due(40, "kind", y.at(0, 1), 2);
+    due(40, "desk", y.day(0, 1), 4);
+    due(40, "told", y.had(-1, 0), 1);
   }
 
   private static void countAndStatus() {
@@ -987,6 +1051,41 @@ public final class PromiseTests {
     due(42, "back", x.status(), -1);
     x.back(0);
     due(41, "images do not keep that", x.count(8), 2);
+    TicketHall y = new TicketHall();
+    y.person(9, 9);
+    due(42, "person 0", y.person(0, 0) + y.status(), 0);
+    y.ticket(0, 0);
+    due(42, "ticket 0", y.ticket(1, 0) + y.status(), 0);
+    y.desk(0, 0);
+    due(42, "desk 0", y.desk(0, 1) + y.status(), 0);
+    y.wish(9, 9, 9);
+    due(42, "wish 0", y.wish(0, 0, 0) + y.status(), 0);
+    y.draw(9, 9);
+    due(42, "draw", y.draw(0, 0) + y.status(), 1);
+    y.drop(9);
+    due(42, "drop 0", y.drop(0) + y.status(), 0);
+    y.drop(9);
+    due(42, "undo 2", y.undo() + y.status(), 2);
+    y.drop(9);
+    due(42, "undo 0", y.undo() + y.status(), 0);
+    y.person(0, 0);
+    y.ticket(2, 0);
+    y.draw(0, 0);
+    y.draw(1, 1);
+    y.drop(9);
+    due(42, "swap", y.swap(1, 0) + y.status(), 0);
+    y.drop(9);
+    due(42, "orders", orders(y, "pass if 1=2") + y.status(), 0);
+    y.drop(9);
+    due(42, "law 0", law(y, "fits") + y.status(), 0);
+    y.drop(9);
+    due(42, "force", y.force(0) + y.status(), -1);
+    y.drop(9);
+    due(42, "told", y.told(0, 0) + y.status(), 1);
+    y.drop(9);
+    due(42, "terms", y.terms(0, 0) + y.status(), 0);
+    y.drop(9);
+    due(42, "pass", y.pass() + y.status(), 1);
     int status = 0;
     x.days(0, 0);
     status += x.status();
