@@ -460,7 +460,8 @@ public final class TicketHall {
     }
 
     public int drawn(int person) {
-        return hall.isPerson(person) ? drawnTickets[person] : NONE;
+        // The latest days outlive back(), so that whom they tell of need not be one of the people now.
+        return person >= 0 && person < MOST_PEOPLE ? drawnTickets[person] : NONE;
     }
 
     public int image(int k) {
@@ -1656,7 +1657,7 @@ public final class TicketHall {
                 return;
             }
             for (int t = 0; t < hall.tickets; t++) {
-                if (hall.holder[t] != NONE && wayHolder[t] == NONE && !judge.isBarred(person, t)) {
+                if (hall.holder[t] != NONE && wayHolder[t] == NONE && mayHave(person, t)) {
                     way[person] = t;
                     wayHolder[t] = person;
                     place(person + 1);
@@ -1664,6 +1665,11 @@ public final class TicketHall {
                 }
             }
             way[person] = NONE;
+        }
+
+        /** What was had in the past may have been held ahead of a law that bars it; what is still to be held may not. */
+        private boolean mayHave(int person, int ticket) {
+            return asTold || !judge.isBarred(person, ticket);
         }
 
         private void keepIfBetter() {

@@ -334,35 +334,35 @@ final class HallModel {
       return all;
     }
 
-    List<int[]> ways() {
+    List<int[]> ways(boolean barredToo) {
       List<int[]> found = new ArrayList<>();
       int[] row = new int[people.size()];
-      waysFrom(0, row, found);
+      waysFrom(0, row, found, barredToo);
       return found;
     }
 
-    void waysFrom(int p, int[] row, List<int[]> found) {
+    void waysFrom(int p, int[] row, List<int[]> found, boolean barredToo) {
       if (p == row.length) {
         found.add(row.clone());
         return;
       }
       if (people.get(p).holds < 0) {
         row[p] = -1;
-        waysFrom(p + 1, row, found);
+        waysFrom(p + 1, row, found, barredToo);
         return;
       }
       for (int t = 0; t < tickets.size(); t++) {
-        boolean taken = holder(t) < 0 || barred(p, t);
+        boolean taken = holder(t) < 0 || !barredToo && barred(p, t);
         for (int q = 0; q < p; q++) taken |= row[q] == t;
         if (taken) continue;
         row[p] = t;
-        waysFrom(p + 1, row, found);
+        waysFrom(p + 1, row, found, barredToo);
       }
     }
 
     List<int[]> had() {
       List<int[]> found = new ArrayList<>();
-      for (int[] way : ways()) {
+      for (int[] way : ways(true)) {
         int[][] day = day(law(), way, 7);
         boolean good = true;
         for (int[] one : told) good &= day[one[0]] != null && day[one[0]][1] == one[1];
@@ -660,7 +660,7 @@ final class HallModel {
   int about(int what) {
     int[] best = null;
     int bestFit = 0, bestAll = 0;
-    for (int[] way : now.ways()) {
+    for (int[] way : now.ways(false)) {
       int fit = 0;
       for (int p = 0; p < way.length; p++) if (way[p] >= 0 && now.fit(p, way[p])) fit++;
       int all = now.waitOfAll(now.law(), way);
@@ -828,7 +828,7 @@ final class HallModel {
     return say(changed);
   }
 
-  int drawn(int p) { return isPerson(p) ? latest[p] : -1; }
+  int drawn(int p) { return out(p, 0, latest.length - 1) ? -1 : latest[p]; }
 
   int image(int k) {
     if (out(k, 0, 1)) return no(-1);
