@@ -1,80 +1,8 @@
 /** For each promise of the document: ordinary inputs, the edges it names, and wrong inputs. */
-public final class PromiseTests {
-  private static int wrong = 0;
-  private static int asked = 0;
-
+public final class PromiseTests extends Halls {
   private static void due(int promise, String what, long got, long want) {
-    asked++;
-    if (got != want) {
-      wrong++;
-      System.out.println("promise " + promise + ", " + what + ": answered " + got + ", due is " + want);
-    }
-  }
-
-  private static void text(TicketHall x, String text) {
-    x.end(0);
-    byte[] bytes = new byte[(text.length() + 19) / 20 * 20];
-    for (int i = 0; i < text.length(); i++) bytes[i] = (byte) text.charAt(i);
-    java.nio.ByteBuffer b = java.nio.ByteBuffer.wrap(bytes);
-    while (b.remaining() > 0) x.feed(b.getInt(), b.getInt(), b.getInt(), b.getInt(), b.getInt());
-    x.end(text.length());
-  }
-
-  private static void bytes(TicketHall x, int... bytes) {
-    char[] signs = new char[bytes.length];
-    for (int i = 0; i < bytes.length; i++) signs[i] = (char) bytes[i];
-    text(x, new String(signs));
-  }
-
-  private static int law(TicketHall x, String text) {
-    text(x, text);
-    return x.law();
-  }
-
-  private static int orders(TicketHall x, String text) {
-    text(x, text);
-    return x.orders();
-  }
-
-  private static void force(TicketHall x, String text) {
-    x.force(law(x, text));
-  }
-
-  /** Where a law's or orders' first wrong token is; -1 without, and -9 if that is not what the call said. */
-  private static int faultOfLaw(String text) {
-    TicketHall x = new TicketHall();
-    int r = law(x, text);
-    return r == (x.fault() < 0 ? 0 : -6) ? x.fault() : -9;
-  }
-
-  private static int faultOfOrders(String text) {
-    TicketHall x = new TicketHall();
-    int r = orders(x, text);
-    return (r == -6) == (x.fault() >= 0) ? x.fault() : -9;
-  }
-
-  /** Whether a test, asked for person 3 with ticket 2 (number 30, kind 1), is so: what "bars" says. */
-  private static int isSo(String test) {
-    TicketHall x = new TicketHall();
-    for (int p = 0; p < 4; p++) x.person(p, 10 * p + 5);
-    x.ticket(10, 0);
-    x.ticket(20, 4);
-    x.ticket(30, 1);
-    x.terms(0, 77);
-    x.terms(2, 6);
-    force(x, "bars if " + test);
-    return x.fault() >= 0 ? -9 : x.asks(3, 2, 2);
-  }
-
-  /** n people of business 0 and n tickets of numbers 1 .. n, kind 0; person p holds ticket p. */
-  private static TicketHall held(int n) {
-    TicketHall x = new TicketHall();
-    for (int i = 0; i < n; i++) {
-      x.person(0, 10 + i);
-      x.ticket(i + 1, 0);
-    }
-    for (int i = 0; i < n; i++) x.draw(i, i);
-    return x;
+    topic = "promise " + promise;
+    due(what, got, want);
   }
 
   private static void newObject() {
@@ -543,21 +471,6 @@ public final class PromiseTests {
     x.pass();
     x.back(0);
     due(23, "back", x.undo(), -3);
-  }
-
-  /** Numbers 30, 10, 20, 40, 50 of kinds 0, 0, 1, 0, 2 held by people 0 .. 4; desks: kinds 0 and 1 at 4, kind 0 at 2, kind 3. */
-  private static TicketHall busy() {
-    TicketHall x = new TicketHall();
-    int[] numbers = {30, 10, 20, 40, 50}, kinds = {0, 0, 1, 0, 2};
-    for (int i = 0; i < 5; i++) {
-      x.person(i, i);
-      x.ticket(numbers[i], kinds[i]);
-      x.draw(i, i);
-    }
-    x.desk(3, 4);
-    x.desk(1, 2);
-    x.desk(8, 9);
-    return x;
   }
 
   private static void day() {
