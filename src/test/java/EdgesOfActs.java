@@ -25,6 +25,15 @@ final class EdgesOfActs extends Halls {
     due("held", x.of(1, 2), 1);
     due("by it", x.at(1, 2), 1);
     due("both are held", x.count(2), 2);
+    TicketHall y = oneHolds();
+    law(y, "bars");
+    y.force(0);
+    due("barred now", y.draw(0, 1), -3);
+    y.force(-1);
+    due("not any more", y.draw(0, 1), 7);
+    y.force(0);
+    y.drop(1);
+    due("and barred again", y.draw(0, 1), -3);
   }
 
   @Says(in = "III", value = "To SWAP: two who hold TICKETS hold each other's then, neither of them BARRED from that.")
@@ -47,6 +56,11 @@ final class EdgesOfActs extends Halls {
     force(z, "bars if person = ticket");
     due("barred from what they hold now alone", z.swap(0, 1), 1);
     refuses("not back, then", z, -3, h -> h.swap(0, 1));
+    z.force(-1);
+    due("but without that law", z.swap(0, 1), 0);
+    z.force(0);
+    due("and again by it", z.swap(0, 1), 1);
+    due("and no more", z.swap(0, 1), -3);
   }
 
   @Says(in = "III", value = "To DROP: it is nobody's.")

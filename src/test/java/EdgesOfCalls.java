@@ -11,6 +11,13 @@ final class EdgesOfCalls extends Halls {
       due("call " + ++calls, x.count(6), Math.min(i + 1, 16));
     }
     due("calls", calls, 512);
+    TicketHall z = new TicketHall();
+    for (int i = 0; i < 256; i++) {
+      // "pass if 2*2=4*1+0*0 " and "drop 2*2+4*1+0*0 if " take turns.
+      if (i % 2 == 0) z.feed(0x70617373, 0x20696620, 0x322a323d, 0x342a312b, 0x302a3020);
+      else z.feed(0x64726f70, 0x20322a32, 0x2b342a31, 0x2b302a30, 0x20696620);
+      due("text " + i, z.orders(), i % 2 == 0 ? 1 : -6);
+    }
     TicketHall y = held(6);
     due("18 calls", y.count(2), 6);
     for (int i = 0; i < 492; i += 4) {
@@ -429,6 +436,13 @@ final class EdgesOfCalls extends Halls {
   @Says(in = "Promise 23", value = {"-3 there is none (nothing that was ahead of a person(), ticket(), terms(), row() that was not REFUSED can be undone)."})
   static void undoNothingAhead() {
     refuses("an empty hall", new TicketHall(), -3, h -> h.undo());
+    TicketHall first = new TicketHall();
+    first.pass();
+    first.person(0, 0);
+    refuses("the first person", first, -3, h -> h.undo());
+    first.pass();
+    first.ticket(1, 0);
+    refuses("the first ticket", first, -3, h -> h.undo());
     TicketHall p = held(1), t = held(1), c = held(1), r = held(1), s = held(1);
     p.person(0, 0);
     t.ticket(50, 0);

@@ -318,8 +318,15 @@ final class EdgesOfDays extends Halls {
     due("its law", x.of(0, 3), 7);
     due("what was told", x.had(-1, 0), 1);
     due("its chance", x.few(1, 1), 600000000000L);
+    x.person(1, 1);
+    x.ticket(11, 1);
+    x.desk(2, 2);
+    x.told(0, 999);
+    x.wish(2, 2, 9);
     x.back(1);
     alike("the other one", state(x), behind);
+    due("its desks", x.asks(0, 0, 4), 9);
+    due("its people and tickets", x.of(2, 0) * 100 + x.of(2, 1) + x.at(2, 0), 488);
     due("its law", x.of(0, 3), 3);
     x.back(0);
     due("back again", x.count(0), 2);
@@ -333,5 +340,42 @@ final class EdgesOfDays extends Halls {
     due("kept anew", x.of(1, 2), -1);
     x.back(1);
     due("the other stays", x.count(0), 3);
+  }
+
+  @Says(in = "IV", value = "all that it keeps is as it was then")
+  static void backToAFullImage() {
+    TicketHall x = new TicketHall();
+    x.image(0);
+    for (int i = 0; i < 6; i++) x.person(4, 90 + i);
+    for (int i = 0; i < 8; i++) x.ticket(80 + i, 4);
+    for (int i = 0; i < 3; i++) x.desk(16, 5 - i);
+    for (int i = 0; i < 6; i++) law(x, "costs " + (i + 2));
+    x.wish(5, 7, 9);
+    x.draw(7, 5);
+    x.told(5, 5);
+    x.force(5);
+    x.image(1);
+    x.back(0);
+    for (int i = 0; i < 6; i++) x.person(1, i);
+    for (int i = 0; i < 8; i++) x.ticket(10 + i, 1);
+    for (int i = 0; i < 3; i++) x.desk(2, 9);
+    for (int i = 0; i < 6; i++) law(x, "costs 9");
+    for (int i = 0; i < 6; i++) x.told(i, i);
+    x.wish(5, 7, 1);
+    x.back(1);
+    for (int i = 0; i < 6; i++) due("person " + i, x.of(i, 0) * 100 + x.of(i, 1), 490 + i);
+    for (int i = 0; i < 8; i++) due("ticket " + i, x.at(i, 0) * 10 + x.at(i, 1), 804 + 10 * i);
+    int[] takes = {5, 6, 7};
+    for (int d = 0; d < 3; d++) due("desk " + d, x.asks(0, 0, 3 + d), takes[d]);
+    due("the desks' kinds", x.day(5, 2), 0);
+    due("the last wish", x.asks(5, 7, 0), 9);
+    due("the law in force", x.of(0, 3), 7);
+    for (int i = 0; i < 6; i++) due("law " + i, x.force(i), i == 0 ? 5 : i - 1);
+    due("the last law", x.of(0, 3), 7);
+    x.force(0);
+    due("the first law", x.of(0, 3), 2);
+    due("told", x.had(-1, 0), 1);
+    x.told(5, 6);
+    due("told by another one", x.had(-1, 0), 0);
   }
 }

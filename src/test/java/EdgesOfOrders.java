@@ -213,6 +213,8 @@ final class EdgesOfOrders extends Halls {
     due("by the law", orders(x, "pass if fit = 3"), 1);
     x.terms(0, 2);
     due("as the minute passes", orders(x, "pass if fit = 1;pass if fit = 3"), 2);
+    TicketHall y = held(6);
+    due("all six", orders(y, "pass if fit = 6;drop 5;pass if fit = 5"), 3);
   }
 
   @Says(in = "II", value = "free: how many TICKETS are nobody's")

@@ -65,6 +65,20 @@ final class EdgesOfPaper extends Halls {
     x.swap(0, 1);
     day(x, 0, 0, 3, 0);
     day(x, 1, 6, 9, 0);
+    // The line changes as tickets come.
+    TicketHall z = new TicketHall();
+    z.desk(31, 9);
+    for (int i = 0; i < 3; i++) z.person(0, 0);
+    z.ticket(50, 0);
+    z.ticket(60, 0);
+    z.draw(0, 0);
+    z.draw(1, 1);
+    day(z, 1, 3, 6, 0);
+    z.ticket(10, 0);
+    z.draw(2, 2);
+    day(z, 2, 0, 3, 0);
+    day(z, 0, 3, 6, 0);
+    day(z, 1, 6, 9, 0);
   }
 
   @Says(in = "III", value = "each to the DESK that OPENS for its KIND and is free earliest (the lowest of alike ones; all are free at 0)")
@@ -106,6 +120,26 @@ final class EdgesOfPaper extends Halls {
     day(x, 2, 1, 51, 1);
     day(x, 3, 51, 111, 1);
     day(x, 4, 60, 120, 0);
+    // Each as long as told of that person with that ticket there, though others were asked of ahead.
+    TicketHall y = held(2);
+    y.swap(0, 1);
+    y.desk(1, 1);
+    force(y, "takes 5; takes 9 if person = 1");
+    day(y, 1, 0, 9, 0);
+    day(y, 0, 9, 14, 0);
+    TicketHall z = new TicketHall();
+    for (int t = 0; t < 8; t++) z.ticket(t + 1, 0);
+    for (int p = 0; p < 6; p++) z.person(0, 0);
+    z.draw(7, 0);
+    z.draw(0, 1);
+    z.desk(1, 1);
+    z.desk(1, 1);
+    force(z, "takes 5; takes 9 if person = 1; takes 7 if person = 5");
+    day(z, 1, 0, 9, 0);
+    day(z, 0, 0, 5, 1);
+    z.draw(6, 5);
+    day(z, 5, 0, 7, 1);
+    day(z, 0, 7, 12, 1);
   }
 
   @Says(in = "III", value = "One for whose KIND no DESK OPENS is not called.")

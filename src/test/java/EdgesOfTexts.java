@@ -44,6 +44,8 @@ final class EdgesOfTexts extends Halls {
     due("orders that end with the tape", orders(x, "pass" + " ".repeat(392) + "if 1"), -6);
     due("at the end", x.fault(), 400);
     due("as orders", orders(x, " ".repeat(396) + "pass"), 1);
+    due("a part of a word at the end", law(x, " ".repeat(398) + "fi"), -6);
+    due("where it begins", x.fault(), 398);
     due("the longest word", law(x, "f".repeat(400)), -6);
     due("from its first letter", x.fault(), 0);
     due("the longest number", law(x, "takes " + "0".repeat(393) + "1"), 2);
@@ -88,8 +90,13 @@ final class EdgesOfTexts extends Halls {
     badLaw("takes 1,000", 7);
     badLaw("takes -1", 6);
     badLaw("takes #1", 6);
-    for (int other = 128; other < 256; other += 127) badLaw("fits " + (char) other, 5);
-    badLaw("fits\u0000", 4);
+    for (int other = 0; other < 256; other++) {
+      boolean goesOn = other == ';' || other == ' ';
+      boolean letter = other >= 'a' && other <= 'z', digit = other >= '0' && other <= '9';
+      due("byte " + other + " behind a clause", faultOfLaw("fits" + (char) other), other == ' ' ? -1 : goesOn ? 5 : letter ? 0 : 4);
+      due("byte " + other + " as a part", faultOfLaw("takes 3+" + (char) other), digit ? -1 : other == ' ' || other == '[' ? 9 : 8);
+      due("byte " + other + " as a clause", faultOfOrders("" + (char) other), other == ' ' ? 1 : 0);
+    }
     goodLaws("takes[[1]]", "fits if((1=1))");
   }
 
@@ -144,6 +151,8 @@ final class EdgesOfTexts extends Halls {
 
   @Says(in = "II", value = "PLAIN: \"not\" PLAIN | \"(\" TEST \")\" | SUM (\"<\" | \">\" | \"=\") SUM.")
   static void plain() {
+    so("not (not 1=1)", "not 2<1", "not 1>2", "not (2<1 or 1>2)", "not (not (not 1=2))", "not (not 1=1) and 1=1");
+    notSo("not (not 1=2)", "not 1=1 and 1=1", "2<1 and 1=1", "1>2 and 1=1", "(not 1=1) or 1=2");
     so("not 1=2", "not not 1=1", "not not not 1=2", "not (1=2 or 1=2)", "not 1=2 and 1=1", "not(1=1 and 1=2)", "((1=1))", "1<2", "2>1", "2=2",
         "0 - 1 < 0", "1 + 1 > 1");
     notSo("not 1=1", "not not 1=2", "1<1", "1>1", "2<1", "1>2", "1=2", "not (1=1) or 1=2", "not 1=1 and 1=2");

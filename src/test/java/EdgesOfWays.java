@@ -61,6 +61,24 @@ final class EdgesOfWays extends Halls {
     TicketHall y = held(6);
     y.desk(1, 9);
     force(y, "costs person");
+    // Of a person with a ticket it is asked, not of either alone.
+    TicketHall z = new TicketHall();
+    z.person(4, 0);
+    z.person(4, 0);
+    z.ticket(1, 0);
+    z.ticket(2, 0);
+    z.draw(0, 0);
+    z.draw(1, 1);
+    force(z, "fits if person = 0 and ticket = 1");
+    about(z, 1, 2000, 1, 0);
+    TicketHall w = new TicketHall();
+    for (int i = 0; i < 6; i++) {
+      w.person(4, 0);
+      w.ticket(9 - i, 0);
+    }
+    for (int i = 0; i < 6; i++) w.draw(i, i);
+    force(w, "fits if ticket = person + 1; fits if person = 5 and ticket = 0");
+    about(w, 6, 6000, 1, 2, 3, 4, 5, 0);
     // 3 minutes each: who costs most comes first.
     about(y, 6, 3 * (4 + 2 * 3 + 3 * 2 + 4 * 1), 5, 4, 3, 2, 1, 0);
   }
@@ -188,11 +206,13 @@ final class EdgesOfWays extends Halls {
   static void few() {
     TicketHall x = new TicketHall();
     due("none of none", x.few(1, 0), 1000000000000L);
+    due("none of none is fewer than 20", x.few(20, 0), 1000000000000L);
     due("none of one", x.few(1, 1), 100000000000L);
     due("none or one of one", x.few(2, 1), 1000000000000L);
     due("less than two of three", x.few(2, 3), 28000000000L);
     x.terms(1, 0);
     due("none comes", x.few(1, 99), 1000000000000L);
+    due("none is fewer than 20", x.few(20, 99), 1000000000000L);
     x.terms(1, 10);
     due("all come", x.few(1, 1), 0);
     due("all 19, fewer than 20", x.few(20, 19), 1000000000000L);
