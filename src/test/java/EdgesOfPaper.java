@@ -264,6 +264,24 @@ final class EdgesOfPaper extends Halls {
     trades(w, 2, 1, 0, 3, 4, 2);
   }
 
+  @Says(in = "III", value = "rings of those that point at one another take what they point at and leave; so on with what is left.")
+  static void ringsInAFullHall() {
+    TicketHall x = new TicketHall();
+    for (int p = 0; p < 6; p++) x.person(0, 0);
+    for (int t = 0; t < 8; t++) x.ticket(t + 1, 0);
+    for (int p = 0; p < 6; p++) x.draw(p + 2, p);
+    x.wish(0, 7, 9);
+    x.wish(5, 2, 9);
+    // The first two tickets are nobody's, so that wishes for them do not matter.
+    for (int p = 0; p < 6; p++) x.wish(p, p % 2, 9);
+    x.wish(0, 0, 0);
+    trades(x, 5, 7, 3, 4, 5, 6, 2);
+    for (int p = 0; p < 6; p++) x.wish(p, 7, 9);
+    trades(x, 5, 7, 3, 4, 5, 6, 2);
+    x.wish(5, 2, 8);
+    trades(x, 6, 2, 3, 4, 5, 6, 7);
+  }
+
   @Says(in = "III", value = "RINGS: how many there are.")
   static void howManyRings() {
     due("none", new TicketHall().trade(-1), 0);
@@ -348,6 +366,13 @@ final class EdgesOfPaper extends Halls {
     x.desk(8, 9);
     force(x, "takes 10; takes 9 if kind = 3");
     due("the last ticket", x.take(0), 3);
+    TicketHall y = new TicketHall();
+    y.person(0, 0);
+    for (int t = 0; t < 8; t++) y.ticket(t + 1, 0);
+    y.desk(1, 1);
+    due("of eight alike the lowest", y.take(0), 0);
+    force(y, "takes 20; takes 10 if ticket = 7");
+    due("of eight the last", y.take(0), 7);
   }
 
   @Says(in = "III", value = "DESKS: the fewest of them (as bits, the lowest) by which all TICKETS that are held are called")

@@ -132,8 +132,9 @@ final class EdgesOfTexts extends Halls {
 
   @Says(in = "II", value = "TEST: BOTH {\"or\" BOTH}.")
   static void anyOf() {
-    so("1=1", "1=1 or 1=2", "1=2 or 1=1", "1=2 or 1=2 or 1=2 or 1=1", "1=1 or 1=2 or 1=2", "1=2 and 1=2 or 1=1", "1=1 or 1=2 and 1=2");
-    notSo("1=2 or 1=2", "1=2 or 1=2 or 1=2");
+    so("1=1", "1=1 or 1=2", "1=2 or 1=1", "1=2 or 1=2 or 1=2 or 1=1", "1=1 or 1=2 or 1=2", "1=2 and 1=2 or 1=1", "1=1 or 1=2 and 1=2",
+        "not 1=2 or 1=2", "not (not 1=1 or 1=2)", "(not 1=2 or 1=2) and 1=1");
+    notSo("1=2 or 1=2", "1=2 or 1=2 or 1=2", "not (1=1 or 1=2)", "not (not 1=2 or 1=2)", "(not 1=2 or 1=2) and 1=2");
     badLaw("fits if 1=1 or", 14);
     badLaw("fits if or 1=1", 8);
     badLaw("fits if 1=1 or or 1=1", 15);
@@ -142,8 +143,8 @@ final class EdgesOfTexts extends Halls {
 
   @Says(in = "II", value = "BOTH: PLAIN {\"and\" PLAIN}.")
   static void allOf() {
-    so("1=1 and 2=2", "1=1 and 2=2 and 3=3", "(1=1 or 1=2) and 1=1");
-    notSo("1=1 and 1=2", "1=2 and 1=1", "1=1 and 2=2 and 1=2", "1=2 and 1=1 and 1=1", "(1=1 or 1=2) and 1=2");
+    so("1=1 and 2=2", "1=1 and 2=2 and 3=3", "(1=1 or 1=2) and 1=1", "not (1=2 and 1=1)", "not (not 1=1 and 1=1)", "not 1=1 and 1=1 or 1=1");
+    notSo("not (not 1=2 and 1=1)", "not 1=1 and 1=1 or 1=2", "1=1 and 1=2", "1=2 and 1=1", "1=1 and 2=2 and 1=2", "1=2 and 1=1 and 1=1", "(1=1 or 1=2) and 1=2");
     badLaw("fits if 1=1 and", 15);
     badLaw("fits if and 1=1", 8);
     badLaw("fits if 1=1 and or 1=1", 16);

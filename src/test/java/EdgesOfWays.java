@@ -40,6 +40,94 @@ final class EdgesOfWays extends Halls {
     about(y, 6, 6000, 5, 4, 3, 2, 1, 0);
   }
 
+  private static void stands(TicketHall x, String when, int ways, int fit, int all, int least) {
+    due(when + ", ways", x.had(-1, 0), ways);
+    due(when + ", fit", x.about(0), fit);
+    due(when + ", all", x.about(1), all);
+    due(when + ", left at most", x.ask(1), least);
+  }
+
+  /** Asked ahead of each call and behind it, so that nothing is told of what stood before. */
+  @Says(in = "III", value = "held in any way by those who hold one now")
+  static void asItStandsNow() {
+    TicketHall x = new TicketHall();
+    stands(x, "an empty hall", 1, 0, 0, -1);
+    for (int i = 0; i < 2; i++) {
+      x.person(i, 0);
+      x.ticket(i + 1, i);
+    }
+    stands(x, "nobody holds one", 1, 0, 0, -1);
+    x.draw(0, 0);
+    stands(x, "one draws", 1, 1, 1000, 1);
+    x.draw(1, 1);
+    stands(x, "two draw", 2, 2, 2000, 1);
+    x.undo();
+    stands(x, "a draw undone", 1, 1, 1000, 1);
+    x.draw(1, 1);
+    x.drop(0);
+    stands(x, "one drops", 1, 1, 1000, 1);
+    x.undo();
+    stands(x, "a drop undone", 2, 2, 2000, 1);
+    x.desk(3, 9);
+    stands(x, "a desk", 2, 2, 3, 1);
+    law(x, "costs 2; costs 5 if minute > 0; costs 9 if mood > 0");
+    stands(x, "a law", 2, 2, 3, 1);
+    x.force(0);
+    stands(x, "in force", 2, 2, 6, 1);
+    x.pass();
+    stands(x, "a minute", 2, 2, 15, 1);
+    x.undo();
+    stands(x, "a minute undone", 2, 2, 6, 1);
+    x.terms(2, 1);
+    stands(x, "a term", 2, 2, 27, 1);
+    x.terms(2, 0);
+    x.told(0, 3);
+    stands(x, "told", 1, 2, 6, 1);
+    x.told(1, 3);
+    stands(x, "told of both", 0, 2, 6, -1);
+    x.forget();
+    stands(x, "forgotten", 2, 2, 6, 1);
+    x.image(0);
+    orders(x, "drop 0; pass");
+    stands(x, "orders", 1, 1, 0, 1);
+    orders(x, "drop 1; drop 1");
+    stands(x, "orders that can't be", 1, 1, 0, 1);
+    x.drop(1);
+    stands(x, "nobody again", 1, 0, 0, -1);
+    x.back(0);
+    stands(x, "back", 2, 2, 6, 1);
+    x.swap(0, 1);
+    stands(x, "a swap", 2, 2, 6, 1);
+    x.undo();
+    x.days(5, 60);
+    x.wish(0, 1, 9);
+    stands(x, "days, a wish", 2, 2, 6, 1);
+    bytes(x, 90, 0);
+    x.row();
+    x.person(0, 0);
+    x.draw(2, 2);
+    stands(x, "a third one", 6, 3, 18, 2);
+    x.force(-1);
+    stands(x, "no law", 6, 3, 9, 2);
+  }
+
+  /** Tickets 1, 6 and 7 of persons 0, 4 and 5: what is asked of one of them is not what is asked of another. */
+  @Says(in = "III", value = "the most that are FIT, then the least of ALL")
+  static void eachAskedOfItsOwn() {
+    TicketHall x = new TicketHall();
+    for (int p = 0; p < 6; p++) x.person(4, 0);
+    for (int t = 0; t < 8; t++) x.ticket(8 - t, 0);
+    for (int d = 0; d < 3; d++) x.desk(d == 2 ? 1 : 0, 1);
+    x.draw(1, 0);
+    x.draw(6, 4);
+    x.draw(7, 5);
+    force(x, "takes 10 + person; takes 40 + person if ticket = 7; fits if person = 4 and ticket = 6; bars if person = 0 and ticket = 6");
+    // Called are tickets 7, 6, 1. Person 4 has 6; then person 0 is first or last.
+    about(x, 1, 40 + 54, 7, -1, -1, -1, 6, 1);
+    force(x, "takes 10 + person; takes 40 + person if ticket = 7; fits if person = 4 and ticket = 6; fits if person = 5 and ticket = 7");
+    about(x, 2, 45 + 59, 1, -1, -1, -1, 6, 7);
+  }
+
   @Says(in = "III", value = "the most that are FIT, then the least of ALL")
   static void mostThenLeast() {
     TicketHall x = new TicketHall();
@@ -61,6 +149,8 @@ final class EdgesOfWays extends Halls {
     TicketHall y = held(6);
     y.desk(1, 9);
     force(y, "costs person");
+    // 3 minutes each: who costs most comes first.
+    about(y, 6, 3 * (4 + 2 * 3 + 3 * 2 + 4 * 1), 5, 4, 3, 2, 1, 0);
     // Of a person with a ticket it is asked, not of either alone.
     TicketHall z = new TicketHall();
     z.person(4, 0);
@@ -79,8 +169,6 @@ final class EdgesOfWays extends Halls {
     for (int i = 0; i < 6; i++) w.draw(i, i);
     force(w, "fits if ticket = person + 1; fits if person = 5 and ticket = 0");
     about(w, 6, 6000, 1, 2, 3, 4, 5, 0);
-    // 3 minutes each: who costs most comes first.
-    about(y, 6, 3 * (4 + 2 * 3 + 3 * 2 + 4 * 1), 5, 4, 3, 2, 1, 0);
   }
 
   @Says(in = "III", value = "the first as a row of TICKETS by PEOPLE.")
