@@ -215,6 +215,13 @@ final class EdgesOfOrders extends Halls {
     due("as the minute passes", orders(x, "pass if fit = 1;pass if fit = 3"), 2);
     TicketHall y = held(6);
     due("all six", orders(y, "pass if fit = 6;drop 5;pass if fit = 5"), 3);
+    y.ticket(7, 0);
+    y.ticket(8, 0);
+    due("of eight tickets", orders(y, "pass if fit = 5;draw 7 by 5;pass if fit = 6"), 3);
+    TicketHall z = new TicketHall();
+    for (int p = 0; p < 6; p++) z.person(0, 0);
+    z.ticket(1, 0);
+    due("the last of six people", orders(z, "draw 0 by 5;pass if fit = 1"), 2);
   }
 
   @Says(in = "II", value = "free: how many TICKETS are nobody's")

@@ -312,6 +312,44 @@ final class EdgesOfPaper extends Halls {
     due("barred from what they hold alone", x.both(-1), 1);
     x.drop(1);
     due("one holds none", x.both(-1), 0);
+    // Tickets 7 and 2 of persons 0 and 1: each is barred from the other's, and not from what has its own number.
+    TicketHall y = full();
+    y.drop(0);
+    y.drop(1);
+    y.draw(7, 0);
+    y.draw(2, 1);
+    y.wish(0, 2, 1);
+    y.wish(1, 7, 1);
+    due("in a full hall", y.both(-1), 1);
+    due("the two", y.both(0), 1);
+    for (String bars : new String[] {"bars if person = 0 and ticket = 2", "bars if person = 1 and ticket = 7"}) {
+      TicketHall z = held(2);
+      for (int t = 2; t < 8; t++) z.ticket(t + 1, 0);
+      z.drop(0);
+      z.drop(1);
+      z.draw(7, 0);
+      z.draw(2, 1);
+      z.wish(0, 2, 1);
+      z.wish(1, 7, 1);
+      due("of eight tickets", z.both(-1), 1);
+      force(z, bars);
+      due(bars, z.both(-1), 0);
+    }
+    TicketHall w = lastTwoHold();
+    w.wish(4, 0, 1);
+    w.wish(5, 1, 1);
+    due("two tickets among six", w.both(0), 45);
+  }
+
+  /** Six people and two tickets: persons 4 and 5 hold tickets 1 and 0; a desk of speed 9. */
+  private static TicketHall lastTwoHold() {
+    TicketHall x = new TicketHall();
+    for (int p = 0; p < 6; p++) x.person(0, 0);
+    for (int t = 0; t < 2; t++) x.ticket(t + 1, 0);
+    x.draw(1, 4);
+    x.draw(0, 5);
+    x.desk(1, 9);
+    return x;
   }
 
   @Says(in = "III", value = "by the lower, then the higher one.")
@@ -405,6 +443,19 @@ final class EdgesOfPaper extends Halls {
     }
     due("three", y.desks(3, 0), 3);
     due("all bits", y.desks(3, 1), 7);
+    TicketHall z = held(2);
+    for (int d = 0; d < 3; d++) z.desk(1, d == 2 ? 9 : 1);
+    // The first two take 21 minutes each, the last one 3.
+    due("the last one alone", z.desks(21, 0), 1);
+    due("fewer of them, though more as bits", z.desks(21, 1), 4);
+    due("sooner, too", z.desks(6, 1), 4);
+    for (int t = 2; t < 8; t++) z.ticket(t + 1, 0);
+    for (int p = 2; p < 6; p++) z.person(0, 0);
+    due("six people, eight tickets", z.desks(21, 1), 4);
+    TicketHall w = lastTwoHold();
+    due("six people, two tickets", w.desks(6, 1), 1);
+    due("the last one of them is done", w.desks(5, 1), -1);
+    due("both of them are", w.desks(3, 1), -1);
   }
 
   @Says(in = "III", value = "and none is done behind a MINUTE.")

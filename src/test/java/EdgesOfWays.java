@@ -279,6 +279,16 @@ final class EdgesOfWays extends Halls {
     for (int p = 0; p < 4; p++) y.drop(p);
     due("the only one who holds one", y.ask(0), 4);
     due("one way", y.ask(1), 1);
+    for (int t = 5; t < 8; t++) y.ticket(60 + t, 0);
+    y.person(0, 0);
+    y.draw(7, 5);
+    y.drop(4);
+    due("the last of six people, the last of eight tickets", y.ask(0), 5);
+    TicketHall w = new TicketHall();
+    for (int p = 0; p < 6; p++) w.person(0, 0);
+    w.ticket(1, 0);
+    w.draw(0, 5);
+    due("the last of six people, the only ticket", w.ask(0), 5);
     TicketHall z = held(4);
     z.desk(1, 9);
     force(z, "takes 5 if person < 2; takes 7 if person > 1");
