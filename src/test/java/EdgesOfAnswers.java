@@ -42,6 +42,12 @@ final class EdgesOfAnswers extends Halls {
     for (int p = 0; p < 6; p++) due("person " + p, x.about(2 + p), tickets[p]);
     for (int bad : new int[] {-1, 8, 9, MIN, MAX}) due("what " + bad, x.about(bad), -1);
     due("no such person", held(1).about(3), -1);
+    TicketHall y = new TicketHall();
+    for (int p = 0; p < 6; p++) y.person(0, 0);
+    y.ticket(1, 0);
+    y.draw(0, 5);
+    due("the last of six people, the only ticket", y.about(7), 0);
+    due("the first one holds none", y.about(2), -1);
     force(x, "bars if person = 5");
     for (int what = -1; what <= 8; what++) due("no such way, what " + what, x.about(what), -1);
   }

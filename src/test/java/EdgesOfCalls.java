@@ -405,6 +405,26 @@ final class EdgesOfCalls extends Halls {
     due("a refused one is none", x.undo(), 0);
     due("undo itself is none", x.undo(), 0);
     refuses("nothing is left", x, -3, h -> h.undo());
+    // The last tickets of the first people, and the other way.
+    TicketHall y = new TicketHall();
+    for (int p = 0; p < 6; p++) y.person(0, 0);
+    for (int t = 0; t < 8; t++) y.ticket(t + 1, 0);
+    String none = state(y);
+    y.draw(7, 0);
+    String one = state(y);
+    y.draw(0, 5);
+    String two = state(y);
+    y.swap(5, 0);
+    String swapped = state(y);
+    y.drop(5);
+    String dropped = state(y);
+    y.drop(0);
+    String[] states = {dropped, swapped, two, one, none};
+    int[] what = {2, 2, 1, 0, 0};
+    for (int i = 0; i < 5; i++) {
+      due("undone of eight tickets", y.undo(), what[i]);
+      alike("as ahead of it", state(y), states[i]);
+    }
   }
 
   @Says(in = "Promise 23", value = "16 are kept) is undone: 0 .. 3.")

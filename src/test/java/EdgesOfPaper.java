@@ -236,6 +236,16 @@ final class EdgesOfPaper extends Halls {
     x.wish(0, 1, 9);
     x.wish(1, 0, 9);
     trades(x, 3, 0, 1, 2);
+    TicketHall y = held(2);
+    force(y, "bars if person = ticket");
+    y.wish(0, 0, 9);
+    y.wish(0, 1, 8);
+    y.wish(1, 0, 9);
+    trades(y, 2, 0, 1);
+    y.wish(0, 1, 9);
+    trades(y, 2, 0, 1);
+    y.wish(0, 0, 8);
+    trades(y, 1, 1, 0);
   }
 
   @Says(in = "III", value = "rings of those that point at one another take what they point at and leave; so on with what is left.")
