@@ -374,7 +374,7 @@ public final class TicketHall {
     public int forget() {
         int was = hall.tolds;
         hall.tolds = 0;
-        plan.isStale();
+        plan.markStale();
         return was;
     }
 
@@ -522,7 +522,7 @@ public final class TicketHall {
 
     private int accepted(int answer) {
         latestStatus = 0;
-        plan.isStale();
+        plan.markStale();
         return answer;
     }
 
@@ -1606,7 +1606,7 @@ public final class TicketHall {
             day = itsDay;
         }
 
-        void isStale() {
+        void markStale() {
             aboutKnown = false;
             waysKnown = false;
         }

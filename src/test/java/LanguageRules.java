@@ -1,12 +1,9 @@
-import java.io.DataInputStream;
-import java.io.InputStream;
 import java.lang.reflect.Field;
 import java.lang.reflect.Member;
 import java.lang.reflect.Method;
 import java.lang.reflect.Modifier;
 import java.nio.file.Files;
 import java.nio.file.Path;
-import java.util.ArrayList;
 import java.util.HashSet;
 import java.util.List;
 import java.util.Set;
@@ -59,33 +56,36 @@ public final class LanguageRules {
     for (Member m : type.getDeclaredMethods()) must(1, !m.isSynthetic(), "synthetic " + m);
   }
 
-  /** What the class file calls, from its constant pool. */
-  private static void library(Class<?> type) throws Exception {
-    try (InputStream file = type.getResourceAsStream("/" + type.getName() + ".class"); DataInputStream in = new DataInputStream(file)) {
-      in.readInt();
-      in.readInt();
-      int n = in.readUnsignedShort();
-      Object[] pool = new Object[n];
-      List<int[]> calls = new ArrayList<>();
-      for (int i = 1; i < n; i++) {
-        int tag = in.readUnsignedByte();
-        switch (tag) {
-          case 1: pool[i] = in.readUTF(); break;
-          case 3: case 4: in.readInt(); break;
-          case 5: case 6: in.readLong(); i++; break;
-          case 7: case 8: case 16: case 19: case 20: pool[i] = new int[] {in.readUnsignedShort()}; break;
-          case 15: in.readUnsignedByte(); in.readUnsignedShort(); break;
-          case 10: case 11: pool[i] = new int[] {in.readUnsignedShort(), in.readUnsignedShort()}; calls.add((int[]) pool[i]); break;
-          case 17: case 18: must(2, false, type + " has a call made at run time (a lambda or texts joined by +)"); in.readInt(); break;
-          default: pool[i] = new int[] {in.readUnsignedShort(), in.readUnsignedShort()}; break;
-        }
+  private static void library(Class<?> type, ClassFile file) {
+    for (Set<String> calls : file.calls.values())
+      for (String call : calls) {
+        must(2, !call.equals("at run time"), type + " has a call made at run time (a lambda or texts joined by +)");
+        if (call.startsWith("TicketHall")) continue;
+        must(4, LIBRARY.contains(call.replaceFirst("\\(.*", "")), type + " calls " + call);
+        must(4, !call.matches("java/util/Arrays.*\\(\\[[ZL].*"), type + " calls " + call + ", which is for arrays of numbers");
       }
-      for (int[] call : calls) {
-        String owner = (String) pool[((int[]) pool[call[0]])[0]];
-        String name = (String) pool[((int[]) pool[call[1]])[0]];
-        if (!owner.startsWith("TicketHall")) must(4, LIBRARY.contains(owner + "." + name), type + " calls " + owner + "." + name);
-      }
+  }
+
+  /** A recursion is told its depth by a number, and all other calls stay shallow. */
+  private static void depth(CallGraph graph) {
+    for (String method : graph.recursive()) must(8, method.matches(".*\\([^)]*I[^)]*\\).*"), method + " calls itself and is told no depth");
+    List<String> longest = graph.longest();
+    must(11, longest.size() <= 8, "calls go " + longest.size() + " deep: " + longest);
+    must(11, longest.size() > 4, "the calls were not found");
+  }
+
+  private static void types(Class<?> type) {
+    for (Field f : type.getDeclaredFields()) must(3, isOfTheLanguage(f.getType()), "the type of " + f);
+    for (Method m : type.getDeclaredMethods()) {
+      must(3, m.getReturnType() == void.class || isOfTheLanguage(m.getReturnType()), "the type of " + m);
+      for (Class<?> parameter : m.getParameterTypes()) must(3, isOfTheLanguage(parameter), "the types of " + m);
     }
+  }
+
+  /** Of what the language has, the part that the class is written in: numbers, texts, own classes, arrays (of two dimensions, if of numbers). */
+  private static boolean isOfTheLanguage(Class<?> type) {
+    Class<?> of = type.isArray() ? type.getComponentType() : type;
+    return of.isPrimitive() || of.isArray() && of.getComponentType().isPrimitive() || of == String.class || of.getName().startsWith("TicketHall$");
   }
 
   private static void source(String path) throws Exception {
@@ -111,18 +111,26 @@ public final class LanguageRules {
     }
   }
 
+  private static void check(Class<?> type, CallGraph graph) throws Exception {
+    ClassFile file = new ClassFile(type);
+    shape(type);
+    types(type);
+    library(type, file);
+    graph.add(file.calls);
+  }
+
   public static void main(String[] args) throws Exception {
     Class<?>[] inside = TicketHall.class.getDeclaredClasses();
     must(11, inside.length + 1 <= 12, "there are " + (inside.length + 1) + " classes");
     face();
-    shape(TicketHall.class);
-    library(TicketHall.class);
+    CallGraph graph = new CallGraph();
+    check(TicketHall.class, graph);
     for (Class<?> type : inside) {
       must(2, Modifier.isStatic(type.getModifiers()) && !Modifier.isPublic(type.getModifiers()), type + " is not static");
       must(2, type.getDeclaredClasses().length == 0, type + " has classes inside");
-      shape(type);
-      library(type);
+      check(type, graph);
     }
+    depth(graph);
     source(args.length > 0 ? args[0] : "src/main/java/TicketHall.java");
     System.out.println(wrong == 0 ? "the rules of the language are kept" : wrong + " breaches of the language");
     if (wrong != 0) System.exit(1);
